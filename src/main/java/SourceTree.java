@@ -860,7 +860,8 @@ public final class SourceTree {
             int j = 0;
             int here = placeBefore;
             int there = placeAfter;
-            while (depth < MOST_NAMES && (i < before.width() || j < after.width())) {
+            int turns = depth < MOST_NAMES ? before.width() + after.width() : 0;
+            for (int turn = 0; turn < turns; turn++) {
                 Node old = before.nodeAt(i);
                 Node young = after.nodeAt(j);
                 int order = orderOf(old, young);
@@ -886,7 +887,7 @@ public final class SourceTree {
             return young == null ? -1 : old.name.order(young.name);
         }
 
-        /** Two NODES of the same path, one of them null if it lacks. */
+        /** Two NODES of the same path, null where there is none. */
         private void compareNodes(Node old, Node young, int placeOld, int placeYoung, int depth) {
             if (old != null && ignored.fit(old) || young != null && ignored.fit(young)) {
                 return;

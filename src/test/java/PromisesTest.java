@@ -37,6 +37,7 @@ final class PromisesTest {
         promise17();
         promises18And19();
         promise20();
+        backToTheSame();
         promise21();
         promise22();
         emptying();
@@ -284,6 +285,12 @@ final class PromisesTest {
         Check.link(x, 0, "m>b/c/d/e/f/g/h");
         Check.link(x, 0, "b/c/d/e/f/g/h/n>a");
         Check.same("8 more than eight NAMES", Check.look(x, 0, "m/n/b/c/d/e/f/g"), 1);
+        String deep = EIGHT.substring(0, 14);
+        Check.put(x, 1, deep + "l0", false, 8);
+        for (int i = 1; i <= 16; i++) {
+            Check.link(x, 1, deep + "l" + i + ">" + deep + "l" + (i - 1));
+        }
+        Check.same("8 seventeen times eight NAMES", Check.look(x, 1, deep + "l16"), 2);
     }
 
     private static void promises9And10() {
@@ -708,6 +715,29 @@ final class PromisesTest {
         for (int tree : WRONG_TREES) {
             Check.same("20 no tree " + tree, x.changes(tree), -1);
         }
+    }
+
+    /** A tree that was made anew is no other one, as long as all in it is the same. */
+    private static void backToTheSame() {
+        SourceTree x = new SourceTree();
+        for (int tree = 0; tree < 3; tree++) {
+            Check.folder(x, tree, EIGHT);
+            Check.put(x, tree, "f", true, 1, 2);
+            Check.link(x, tree, "l>f");
+            Check.edition(x, tree);
+        }
+        Check.same("20 back to the same", x.back(1, 0) ? x.changes(1) : 0, 3);
+        Check.put(x, 2, "f", true, 1, 3);
+        Check.same("20 back from other BYTES", x.back(2, 0) ? x.changes(2) : 0, -2);
+        x.seen(2);
+        Check.link(x, 2, "l>l");
+        x.seen(2);
+        Check.same("20 back from another TARGET", x.back(2, 0) ? x.changes(2) : 0, -2);
+        Check.remove(x, 2, EIGHT);
+        x.seen(2);
+        Check.same("20 back from a folder less", x.back(2, 0) ? x.changes(2) : 0, -2);
+        x.seen(2);
+        Check.same("20 back twice", x.back(2, 1) ? x.changes(2) : -1, 0);
     }
 
     private static void promise21() {
