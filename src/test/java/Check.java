@@ -1,3 +1,5 @@
+import java.util.function.IntUnaryOperator;
+
 /** Counts the answers that are as due, prints the others, and drives a SourceTree by whole texts. */
 final class Check {
     static final int REFUSED_ARGUMENT = -1001;
@@ -42,19 +44,19 @@ final class Check {
         }
     }
 
-    static void type(SourceTree x, String text) {
+    static void type(Counted x, String text) {
         for (int i = 0; i < text.length(); i++) {
             x.type(text.charAt(i));
         }
     }
 
-    static void octets(SourceTree x, int... bytes) {
+    static void octets(Counted x, int... bytes) {
         for (int b : bytes) {
             x.octet(b);
         }
     }
 
-    static int put(SourceTree x, int tree, String path, boolean executable, int... bytes) {
+    static int put(Counted x, int tree, String path, boolean executable, int... bytes) {
         type(x, path);
         octets(x, bytes);
         try {
@@ -66,7 +68,7 @@ final class Check {
         }
     }
 
-    static int link(SourceTree x, int tree, String text) {
+    static int link(Counted x, int tree, String text) {
         type(x, text);
         try {
             return x.link(tree);
@@ -77,7 +79,7 @@ final class Check {
         }
     }
 
-    static int folder(SourceTree x, int tree, String path) {
+    static int folder(Counted x, int tree, String path) {
         type(x, path);
         try {
             return x.folder(tree);
@@ -88,7 +90,7 @@ final class Check {
         }
     }
 
-    static int remove(SourceTree x, int tree, String path) {
+    static int remove(Counted x, int tree, String path) {
         type(x, path);
         try {
             return x.remove(tree);
@@ -99,7 +101,7 @@ final class Check {
         }
     }
 
-    static int look(SourceTree x, int tree, String path) {
+    static int look(Counted x, int tree, String path) {
         type(x, path);
         try {
             return x.look(tree);
@@ -108,7 +110,7 @@ final class Check {
         }
     }
 
-    static int edition(SourceTree x, int tree) {
+    static int edition(Counted x, int tree) {
         try {
             return x.edition(tree);
         } catch (IllegalArgumentException e) {
@@ -118,7 +120,7 @@ final class Check {
         }
     }
 
-    static int ignore(SourceTree x, String pattern) {
+    static int ignore(Counted x, String pattern) {
         type(x, pattern);
         try {
             x.ignore();
@@ -130,41 +132,61 @@ final class Check {
         }
     }
 
+    /** A tree with a given number of NODES, in chains of eight: A/b/c/d/e/f/g/h, B/b/.. */
+    static void fill(Counted x, int tree, int count) {
+        for (int made = 0, i = 0; made < count; i++) {
+            String names = "/b/c/d/e/f/g/h".substring(0, 2 * Math.min(7, count - made - 1));
+            made += put(x, tree, (char) ('A' + i) + names, false);
+        }
+    }
+
     /** All rows, each its kind, its path, and behind > the other one; a blank between two rows. */
-    static String rows(SourceTree x) {
+    static String rows(Counted x) {
         StringBuilder all = new StringBuilder();
-        for (int i = 0; x.row(i) != SourceTree.NONE; i++) {
-            all.append(i == 0 ? "" : " ").append(x.row(i)).append(path(x, i, false));
-            all.append(x.path(i, true, 0) == 0 ? "" : ">" + path(x, i, true));
+        int kind = x.row(0);
+        for (int i = 0; kind != SourceTree.NONE; i++) {
+            String other = path(x, i, true);
+            all.append(i == 0 ? "" : " ").append(kind).append(path(x, i, false));
+            all.append(other.isEmpty() ? "" : ">" + other);
+            kind = x.row(i + 1);
         }
         return all.toString();
     }
 
-    private static String path(SourceTree x, int i, boolean second) {
-        StringBuilder path = new StringBuilder();
-        for (int k = 0; x.path(i, second, k) != 0; k++) {
-            path.append((char) x.path(i, second, k));
-        }
-        return path.toString();
+    static String path(Counted x, int i, boolean second) {
+        return letters(k -> x.path(i, second, k));
     }
 
     /** The PATHS of all changes that are watched, a blank between two. */
-    static String changes(SourceTree x, int tree) {
+    static String changes(Counted x, int tree) {
         StringBuilder all = new StringBuilder();
-        for (int i = 0; x.change(tree, i, 0) != 0; i++) {
-            all.append(i == 0 ? "" : " ");
-            for (int k = 0; x.change(tree, i, k) != 0; k++) {
-                all.append((char) x.change(tree, i, k));
-            }
+        String path = letters(k -> x.change(tree, 0, k));
+        for (int i = 1; !path.isEmpty(); i++) {
+            int next = i;
+            all.append(i == 1 ? "" : " ").append(path);
+            path = letters(k -> x.change(tree, next, k));
+        }
+        return all.toString();
+    }
+
+    /** The characters from place 0 on, up to the first 0. */
+    private static String letters(IntUnaryOperator letter) {
+        StringBuilder all = new StringBuilder();
+        int c = letter.applyAsInt(0);
+        for (int k = 1; c != 0; k++) {
+            all.append((char) c);
+            c = letter.applyAsInt(k);
         }
         return all.toString();
     }
 
     /** The BYTES of the file that was looked at last, each with a blank behind it. */
-    static String bytes(SourceTree x) {
+    static String bytes(Counted x) {
         StringBuilder all = new StringBuilder();
-        for (int k = 0; x.byteAt(k) != SourceTree.NONE; k++) {
-            all.append(x.byteAt(k)).append(' ');
+        int b = x.byteAt(0);
+        for (int k = 1; b != SourceTree.NONE; k++) {
+            all.append(b).append(' ');
+            b = x.byteAt(k);
         }
         return all.toString();
     }

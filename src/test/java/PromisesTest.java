@@ -22,6 +22,7 @@ final class PromisesTest {
         promise8();
         lookGoesRound();
         lookFollowsLongPaths();
+        lookFollowsDeepLinks();
         promises9And10();
         promise11();
         promise12();
@@ -33,7 +34,8 @@ final class PromisesTest {
         differOrders();
         differRenames();
         differIgnores();
-        differFull();
+        differMany();
+        differRenamesMany();
         promise17();
         promises18And19();
         promise20();
@@ -45,7 +47,7 @@ final class PromisesTest {
     }
 
     private static void promise1() {
-        SourceTree x = new SourceTree();
+        Counted x = new Counted();
         Check.same("1 NONE", SourceTree.NONE, -1);
         Check.same("1 size", x.size(), -1);
         Check.same("1 byteAt", x.byteAt(0), -1);
@@ -64,7 +66,7 @@ final class PromisesTest {
     }
 
     private static void promise2() {
-        SourceTree x = new SourceTree();
+        Counted x = new Counted();
         Check.same("2 type 31", x.type((char) 31), false);
         Check.same("2 type 127", x.type((char) 127), false);
         Check.same("2 type 65535", x.type((char) 65535), false);
@@ -82,7 +84,7 @@ final class PromisesTest {
     }
 
     private static void promise3() {
-        SourceTree x = new SourceTree();
+        Counted x = new Counted();
         Check.same("3 octet -1", x.octet(-1), false);
         Check.same("3 octet 256", x.octet(256), false);
         Check.same("3 octet max", x.octet(Integer.MAX_VALUE), false);
@@ -101,7 +103,7 @@ final class PromisesTest {
     }
 
     private static void promise4() {
-        SourceTree x = new SourceTree();
+        Counted x = new Counted();
         Check.same("4 folders that lack", Check.put(x, 3, EIGHT, false, 7), 8);
         Check.same("4 beside", Check.put(x, 3, "a/b/x", true), 1);
         Check.same("4 in place of a file", Check.put(x, 3, "a/b/x", false, 1, 2), 0);
@@ -116,7 +118,7 @@ final class PromisesTest {
     }
 
     private static void putRefuses() {
-        SourceTree x = new SourceTree();
+        Counted x = new Counted();
         String[] wrong = {"", "/", "a/", "/a", "a//b", ".", "..", "a/.", "../a", "a b", "a>b", "a*", "a~", TWELVE + "x",
             EIGHT + "/i", "@", "[", "`", "{", ":", ",", "a\\b"};
         for (String path : wrong) {
@@ -135,17 +137,9 @@ final class PromisesTest {
         Check.same("4 refused, so not watched", Check.changes(x, 0), "d/f l");
     }
 
-    /** A tree with a given number of NODES, at most 8 to a chain of folders. */
-    private static void fill(SourceTree x, int tree, int count) {
-        for (int made = 0, i = 0; made < count; i++) {
-            String names = "/b/c/d/e/f/g/h".substring(0, 2 * Math.min(7, count - made - 1));
-            made += Check.put(x, tree, "f" + i + names, false, i);
-        }
-    }
-
     private static void putFills() {
-        SourceTree x = new SourceTree();
-        fill(x, 1, 98);
+        Counted x = new Counted();
+        Check.fill(x, 1, 98);
         Check.same("4 three more are too many", Check.put(x, 1, "p/q/r", false), STATE);
         Check.same("4 none of them is there", Check.look(x, 1, "p"), 0);
         Check.same("4 two more are not", Check.put(x, 1, "p/q", false), 2);
@@ -162,7 +156,7 @@ final class PromisesTest {
     }
 
     private static void promise5() {
-        SourceTree x = new SourceTree();
+        Counted x = new Counted();
         Check.same("5 link", Check.link(x, 0, "a/l>b/c"), 2);
         Check.same("5 the same one", Check.link(x, 0, "a/l>b/c"), 0);
         Check.same("5 other TARGET", Check.link(x, 0, "a/l>b"), 0);
@@ -186,7 +180,7 @@ final class PromisesTest {
     }
 
     private static void promise6() {
-        SourceTree x = new SourceTree();
+        Counted x = new Counted();
         Check.same("6 folder", Check.folder(x, 0, "a/b/c"), 3);
         Check.same("6 there already", Check.folder(x, 0, "a/b"), 0);
         Check.same("6 still what was in it", Check.look(x, 0, "a/b/c"), 1);
@@ -204,7 +198,7 @@ final class PromisesTest {
     }
 
     private static void promise7() {
-        SourceTree x = new SourceTree();
+        Counted x = new Counted();
         Check.put(x, 0, "a/b/c", false, 1);
         Check.put(x, 0, "a/d", false, 2);
         Check.link(x, 0, "l>a");
@@ -226,7 +220,7 @@ final class PromisesTest {
     }
 
     private static void promise8() {
-        SourceTree x = new SourceTree();
+        Counted x = new Counted();
         Check.put(x, 0, "d/e/f", false, 1);
         Check.put(x, 0, "d/x", true, 1, 2);
         Check.link(x, 0, "d/up>d");
@@ -251,7 +245,7 @@ final class PromisesTest {
     }
 
     private static void lookGoesRound() {
-        SourceTree x = new SourceTree();
+        Counted x = new Counted();
         Check.put(x, 0, "l0", false, 3);
         for (int i = 1; i <= 17; i++) {
             Check.link(x, 0, "l" + i + ">l" + (i - 1));
@@ -277,7 +271,7 @@ final class PromisesTest {
     }
 
     private static void lookFollowsLongPaths() {
-        SourceTree x = new SourceTree();
+        Counted x = new Counted();
         Check.folder(x, 0, EIGHT.substring(2));
         Check.put(x, 0, EIGHT, true, 8);
         Check.link(x, 0, "l>a/b/c/d/e/f");
@@ -285,16 +279,20 @@ final class PromisesTest {
         Check.link(x, 0, "m>b/c/d/e/f/g/h");
         Check.link(x, 0, "b/c/d/e/f/g/h/n>a");
         Check.same("8 more than eight NAMES", Check.look(x, 0, "m/n/b/c/d/e/f/g"), 1);
-        String deep = EIGHT.substring(0, 14);
-        Check.put(x, 1, deep + "l0", false, 8);
-        for (int i = 1; i <= 16; i++) {
-            Check.link(x, 1, deep + "l" + i + ">" + deep + "l" + (i - 1));
+    }
+
+    private static void lookFollowsDeepLinks() {
+        Counted x = new Counted();
+        String deep = EIGHT.substring(0, 12);
+        Check.put(x, 1, deep + "A", false, 8);
+        for (char c = 'B'; c <= 'Q'; c++) {
+            Check.link(x, 1, deep + c + ">" + deep + (char) (c - 1));
         }
-        Check.same("8 seventeen times eight NAMES", Check.look(x, 1, deep + "l16"), 2);
+        Check.same("8 seventeen times seven NAMES", Check.look(x, 1, deep + "Q"), 2);
     }
 
     private static void promises9And10() {
-        SourceTree x = new SourceTree();
+        Counted x = new Counted();
         Check.put(x, 0, "a", false, 5, 0, 255);
         Check.put(x, 0, "b", false);
         Check.folder(x, 0, "d");
@@ -321,7 +319,7 @@ final class PromisesTest {
     }
 
     private static void promise11() {
-        SourceTree x = new SourceTree();
+        Counted x = new Counted();
         for (int tree : WRONG_TREES) {
             Check.same("11 no tree " + tree, Check.edition(x, tree), ARGUMENT);
         }
@@ -337,7 +335,7 @@ final class PromisesTest {
     }
 
     private static void promise12() {
-        SourceTree x = new SourceTree();
+        Counted x = new Counted();
         Check.put(x, 0, "a/b", false, 1);
         Check.edition(x, 0);
         Check.put(x, 0, "a/b", false, 2);
@@ -369,7 +367,7 @@ final class PromisesTest {
     }
 
     private static void promise13() {
-        SourceTree x = new SourceTree();
+        Counted x = new Counted();
         Check.put(x, 0, "b", false, 0, 255);
         Check.edition(x, 0);
         Check.same("13 a file", x.digest(0), digest(29, 'b', digest(17, 1, 256)));
@@ -395,7 +393,7 @@ final class PromisesTest {
     }
 
     private static void promise14() {
-        SourceTree x = new SourceTree();
+        Counted x = new Counted();
         Check.put(x, 0, "a/b/c", false);
         Check.put(x, 0, "a/x.o", false);
         Check.put(x, 0, "out/c", false);
@@ -417,7 +415,7 @@ final class PromisesTest {
     }
 
     private static void promise15() {
-        SourceTree x = new SourceTree();
+        Counted x = new Counted();
         String[] wrong = {"", ".", "..", "a/b", "a b", TWELVE + "*", "a>b", "a?", "~"};
         for (String pattern : wrong) {
             Check.same("15 none " + pattern, Check.ignore(x, pattern), ARGUMENT);
@@ -435,7 +433,7 @@ final class PromisesTest {
     }
 
     private static void fits(String pattern, String name, boolean due) {
-        SourceTree x = new SourceTree();
+        Counted x = new Counted();
         Check.ignore(x, pattern);
         Check.put(x, 0, name, false);
         Check.edition(x, 0);
@@ -470,14 +468,14 @@ final class PromisesTest {
         fits("abcdefghijk*", "abcdefghijkl", true);
     }
 
-    private static String differ(SourceTree x, int first, int second) {
+    private static String differ(Counted x, int first, int second) {
         int count = x.differ(first, second);
         Check.same("16 no rows behind the last", x.row(count), -1);
         return Check.rows(x);
     }
 
     private static void promise16() {
-        SourceTree x = new SourceTree();
+        Counted x = new Counted();
         Check.put(x, 0, "content", false, 1);
         Check.put(x, 0, "mark", false, 2);
         Check.put(x, 0, "both", false, 3);
@@ -512,7 +510,7 @@ final class PromisesTest {
     }
 
     private static void differOrders() {
-        SourceTree x = new SourceTree();
+        Counted x = new Counted();
         Check.put(x, 0, "a/z", false, 1);
         Check.put(x, 0, "a-", false, 2);
         Check.put(x, 0, "ab", false, 3);
@@ -534,7 +532,7 @@ final class PromisesTest {
     }
 
     private static void differRenames() {
-        SourceTree x = new SourceTree();
+        Counted x = new Counted();
         Check.put(x, 0, "p", false, 1);
         Check.put(x, 0, "q", false, 1);
         Check.put(x, 0, "r", false, 1);
@@ -562,7 +560,7 @@ final class PromisesTest {
     }
 
     private static void differIgnores() {
-        SourceTree x = new SourceTree();
+        Counted x = new Counted();
         Check.put(x, 0, "a", false, 1);
         Check.put(x, 0, "out/b", false, 2);
         Check.put(x, 0, "x.o", false, 3);
@@ -584,34 +582,44 @@ final class PromisesTest {
         Check.same("16 a file and a folder that are ignored", differ(x, 1, 2), "1src/b");
     }
 
-    private static void differFull() {
-        SourceTree x = new SourceTree();
-        for (int i = 0; i < 100; i++) {
-            Check.put(x, 0, "f" + i, false, i);
-            Check.put(x, 1, "g" + i, false, i, i);
+    /** As many rows as 512 calls can make: 64 NAMES of one character, the others of two. */
+    private static void differMany() {
+        Counted x = new Counted();
+        String letters = "-0123456789ABCDEFGHIJKLMNOPQRSTUVWXYZ_abcdefghijklmnopqrstuvwxyz";
+        for (int i = 0; i < 94; i++) {
+            Check.put(x, 0, i < 64 ? letters.substring(i, i + 1) : "x" + letters.charAt(i - 64), false);
+            Check.put(x, 1, (i < 64 ? "y" : "z") + letters.charAt(i % 64), true);
         }
         Check.edition(x, 0);
         Check.edition(x, 1);
-        Check.same("16 two hundred rows", x.differ(0, 1), 200);
-        Check.same("18 the last of them", x.row(199), 0);
-        Check.same("18 behind it", x.row(200), -1);
-        Check.same("19 the last of them", x.path(199, false, 2), '9');
-        for (int i = 0; i < 100; i++) {
-            Check.put(x, 1, "g" + i, false, 99 - i);
-        }
-        Check.edition(x, 1);
-        Check.same("16 a hundred renames", x.differ(0, 2), 100);
-        Check.same("19 f0 to g99", x.path(0, true, 1) * 256 + x.path(0, true, 2), '9' * 256 + '9');
+        Check.same("16 many rows", x.differ(0, 1), 188);
+        Check.same("18 the last of them", x.row(187), 0);
+        Check.same("18 behind it", x.row(188), -1);
+        Check.same("19 the last of them", x.path(187, false, 0) * 256 + x.path(187, false, 1), 'z' * 256 + 'S');
     }
 
-    private static String clashes(SourceTree x, int edition) {
+    private static void differRenamesMany() {
+        Counted x = new Counted();
+        String letters = "0123456789abcdefghijklmnopqrstuvwxyzABCD";
+        for (int i = 0; i < 40; i++) {
+            Check.put(x, 0, "" + letters.charAt(i), false, i);
+            Check.put(x, 1, "_" + letters.charAt(i), false, 39 - i);
+        }
+        Check.edition(x, 0);
+        Check.edition(x, 1);
+        Check.same("16 forty renames", x.differ(0, 1), 40);
+        Check.same("19 0 to _D", x.path(0, true, 1), 'D');
+        Check.same("18 behind them", x.row(40), -1);
+    }
+
+    private static String clashes(Counted x, int edition) {
         int count = x.clashes(edition);
         Check.same("17 no rows behind the last", x.row(count), -1);
         return Check.rows(x);
     }
 
     private static void promise17() {
-        SourceTree x = new SourceTree();
+        Counted x = new Counted();
         Check.put(x, 0, "Make", false, 1);
         Check.link(x, 0, "MAKE>Make");
         Check.put(x, 0, "make/Z_", false, 2);
@@ -643,7 +651,7 @@ final class PromisesTest {
     }
 
     private static void promises18And19() {
-        SourceTree x = new SourceTree();
+        Counted x = new Counted();
         Check.put(x, 0, "a/b/c", false, 1);
         Check.edition(x, 0);
         Check.remove(x, 0, "a");
@@ -677,7 +685,7 @@ final class PromisesTest {
     }
 
     private static void promise20() {
-        SourceTree x = new SourceTree();
+        Counted x = new Counted();
         Check.put(x, 0, "a/b", false, 1);
         Check.put(x, 0, "a/b", false, 1);
         Check.same("20 the same file again", x.changes(0), 1);
@@ -719,7 +727,7 @@ final class PromisesTest {
 
     /** A tree that was made anew is no other one, as long as all in it is the same. */
     private static void backToTheSame() {
-        SourceTree x = new SourceTree();
+        Counted x = new Counted();
         for (int tree = 0; tree < 3; tree++) {
             Check.folder(x, tree, EIGHT);
             Check.put(x, tree, "f", true, 1, 2);
@@ -741,7 +749,7 @@ final class PromisesTest {
     }
 
     private static void promise21() {
-        SourceTree x = new SourceTree();
+        Counted x = new Counted();
         Check.put(x, 0, "a/b", false, 1);
         Check.link(x, 0, "l>b");
         Check.same("21 first", x.change(0, 0, 0), 'a');
@@ -768,7 +776,7 @@ final class PromisesTest {
     }
 
     private static void promise22() {
-        SourceTree x = new SourceTree();
+        Counted x = new Counted();
         Check.put(x, 0, "a", false);
         Check.put(x, 1, "b", false);
         Check.edition(x, 1);
@@ -794,7 +802,7 @@ final class PromisesTest {
 
     /** TEXT and BYTES are empty behind each call that takes them, whether it is refused or not. */
     private static void emptying() {
-        SourceTree x = new SourceTree();
+        Counted x = new Counted();
         Check.put(x, 0, "d/e", false);
         Check.octets(x, 1);
         Check.link(x, 0, "l>d");
@@ -838,13 +846,13 @@ final class PromisesTest {
         Check.same("others take no BYTES", x.byteAt(0), 6);
     }
 
-    private static void emptied(SourceTree x, String call) {
+    private static void emptied(Counted x, String call) {
         Check.put(x, 0, "e", false, 7);
         Check.same("empty behind " + call, Check.look(x, 0, "e"), 2);
         Check.same("empty behind " + call, Check.bytes(x), "7 ");
     }
 
-    private static void keeping(SourceTree x) {
+    private static void keeping(Counted x) {
         Check.edition(x, 0);
         x.back(0, 0);
         x.differ(0, 0);

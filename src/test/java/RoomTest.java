@@ -38,6 +38,12 @@ final class RoomTest {
         }
     }
 
+    private static void type(SourceTree x, String text) {
+        for (int i = 0; i < text.length(); i++) {
+            x.type(text.charAt(i));
+        }
+    }
+
     private static void newObjects() {
         for (int i = 0; i < 512; i++) {
             new SourceTree();
@@ -55,14 +61,14 @@ final class RoomTest {
     private static void deepFolders() {
         SourceTree x = new SourceTree();
         for (int i = 0; i < 32; i++) {
-            Check.type(x, "a/b/c/d/e/f/g/" + SINGLE.charAt(i));
+            type(x, "a/b/c/d/e/f/g/" + SINGLE.charAt(i));
             x.folder(0);
         }
     }
 
     private static void linksRound() {
         SourceTree x = new SourceTree();
-        Check.type(x, "a>a/b/b/b/b/b/b/b");
+        type(x, "a>a/b/b/b/b/b/b/b");
         x.link(0);
         for (int i = 0; i < 246; i++) {
             x.type('a');
@@ -79,7 +85,7 @@ final class RoomTest {
         x.edition(0);
         x.edition(1);
         x.edition(2);
-        for (int i = 0; i < 253; i++) {
+        for (int i = 0; i < 126; i++) {
             x.differ(i % 3, 2 - i % 2);
             x.clashes(i % 3);
         }
