@@ -27,6 +27,7 @@ final class RefusedTest {
         looks();
         patterns();
         editions();
+        comparisons();
         others();
         accepted();
         Check.finish("RefusedTest");
@@ -165,6 +166,21 @@ final class RefusedTest {
         refused("edition: there are 16", sixteen, x -> Check.edition(x, 0), STATE);
         refused("edition: there are 16, and no such tree", sixteen, x -> Check.edition(x, 4), ARGUMENT);
         refused("back: there are 16, and no edition 16", sixteen, x -> x.back(0, 16) ? 1 : 0, 0);
+    }
+
+    /** Rows go, as the document says; so there are none before. */
+    private static void comparisons() {
+        Consumer<Counted> before = x -> {
+            rich(x);
+            Check.same("clashes: none", x.clashes(0), 0);
+            Check.type(x, "k");
+            Check.octets(x, 6);
+        };
+        for (int edition : NO_EDITIONS) {
+            refused("differ: there is no first edition " + edition, before, x -> x.differ(edition, 1), -1);
+            refused("differ: there is no second edition " + edition, before, x -> x.differ(1, edition), -1);
+            refused("clashes: there is no edition " + edition, before, x -> x.clashes(edition), -1);
+        }
     }
 
     /** Calls that take neither TEXT nor BYTES and find nothing in the rich object: each answers 0. */

@@ -28,6 +28,8 @@ final class TermsEdgeTest {
         nameDots();
         pathLengths();
         pathSlashes();
+        eightDeep();
+        eightDeepIsTheSame();
         treesAreEmptyAtFirst();
         treesHave100Nodes();
         ignoredNodesCount();
@@ -230,6 +232,53 @@ final class TermsEdgeTest {
         }
         path("a/b", true);
         path("a/a/a/a/a/a/a/a", true);
+    }
+
+    /** What is eight NAMES deep is counted, compared and found as anything else. */
+    private static void eightDeep() {
+        Counted x = new Counted();
+        Check.put(x, 0, EIGHT, false, 1);
+        Check.put(x, 0, "a/b/c/d/e/f/g/H", false, 2);
+        Check.link(x, 0, "a/b/c/d/e/f/g/l>a");
+        Check.edition(x, 0);
+        Check.put(x, 0, EIGHT, true, 1);
+        Check.put(x, 0, "a/b/c/d/e/f/g/H", false, 3);
+        Check.link(x, 0, "a/b/c/d/e/f/g/l>b");
+        Check.edition(x, 0);
+        Check.same("eight deep: nodes", x.nodes(0), 10);
+        Check.same("eight deep: differ", differ(x, 0, 1), "2a/b/c/d/e/f/g/H 3a/b/c/d/e/f/g/h 4a/b/c/d/e/f/g/l");
+        Check.same("eight deep: clashes", x.clashes(0), 1);
+        Check.same("eight deep: the clash", Check.rows(x), "6" + EIGHT);
+        Check.ignore(x, "h");
+        Check.same("eight deep: nodes that aren't IGNORED", x.nodes(0), 9);
+        Check.same("eight deep: differ, but for what is IGNORED", x.differ(0, 1), 2);
+        Check.same("eight deep: clashes, but for what is IGNORED", x.clashes(0), 0);
+        Counted renamed = new Counted();
+        Check.put(renamed, 0, EIGHT, false, 1);
+        Check.edition(renamed, 0);
+        Check.put(renamed, 1, "A/b/c/d/e/f/g/h", false, 1);
+        Check.edition(renamed, 1);
+        Check.same("eight deep: renamed", differ(renamed, 0, 1), "5" + EIGHT + ">A/b/c/d/e/f/g/h");
+    }
+
+    private static void eightDeepIsTheSame() {
+        Counted x = new Counted();
+        for (int tree = 0; tree < 3; tree++) {
+            Check.folder(x, tree, EIGHT);
+        }
+        Check.put(x, 1, "a/b/c/d/e/f/g/i", false, 1);
+        for (int tree = 0; tree < 3; tree++) {
+            Check.edition(x, tree);
+            x.seen(tree);
+        }
+        x.back(2, 0);
+        Check.same("eight deep: back to the same", x.changes(2), 0);
+        x.back(2, 1);
+        Check.same("eight deep: back to another one", x.changes(2), -2);
+        Check.put(x, 1, "a/b/c/d/e/f/g/i", false, 1);
+        Check.same("eight deep: the same file", x.changes(1), 0);
+        Check.put(x, 1, "a/b/c/d/e/f/g/i", true, 1);
+        Check.same("eight deep: another one", x.changes(1), 1);
     }
 
     private static void treesAreEmptyAtFirst() {
