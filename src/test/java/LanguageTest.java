@@ -14,11 +14,16 @@ import java.util.regex.Pattern;
 /** The rules of LANGUAGE.md that show in the source's text or in the compiled class. */
 final class LanguageTest {
     private static final Path SOURCE = Path.of("src/main/java/SourceTree.java");
+    private static final String BOTH = " throws IllegalArgumentException, IllegalStateException";
     private static final Set<String> FACE = Set.of("boolean type(char)", "boolean octet(int)",
-        "int put(int,boolean)", "int link(int)", "int folder(int)", "int remove(int)", "int look(int)", "int size()",
-        "int byteAt(int)", "int edition(int)", "boolean back(int,int)", "long digest(int)", "int nodes(int)",
-        "void ignore()", "int differ(int,int)", "int clashes(int)", "int row(int)", "int path(int,boolean,int)",
-        "int changes(int)", "int change(int,int,int)", "boolean seen(int)");
+        "int put(int, boolean)" + BOTH, "int link(int)" + BOTH, "int folder(int)" + BOTH, "int remove(int)" + BOTH,
+        "int look(int) throws IllegalArgumentException", "int size()", "int byteAt(int)", "int edition(int)" + BOTH,
+        "boolean back(int, int)", "long digest(int)", "int nodes(int)", "void ignore()" + BOTH,
+        "int differ(int, int)", "int clashes(int)", "int row(int)", "int path(int, boolean, int)",
+        "int changes(int)", "int change(int, int, int)", "boolean seen(int)");
+    /** The own methods may bear other names; of the library there are these, and no more are needed. */
+    private static final Set<String> LIBRARY = Set.of("length", "charAt", "isEmpty", "equals", "indexOf", "substring",
+        "append", "setLength", "toString", "min", "copyOf");
     private static final String[] FORBIDDEN = {"->", "::", "@", "\\bfinally\\b", "\\bsynchronized\\b", "\\bassert\\b",
         "\\btry\\b", "\\bcatch\\b", "\\bpackage\\b", "\\bvar\\b", "String\\[", "\\[\\]\\[", "\\bMath\\.\\w+Exact\\b",
         "\\bSystem\\.(?!arraycopy)", "\\bCharacter\\b", "\\bObject\\b", "\\bhashCode\\b", "\\bstatic \\{",
@@ -28,45 +33,60 @@ final class LanguageTest {
     }
 
     public static void main(String[] args) throws IOException {
-        face();
-        nestedClasses();
+        Set<String> names = new TreeSet<>();
+        for (String method : FACE) {
+            names.add(method.replaceAll("\\w+ (\\w+)\\(.*", "$1"));
+        }
+        face(names);
+        fieldsAndConstructor();
+        nestedClasses(names);
         text(Files.readString(SOURCE));
         Check.finish("LanguageTest");
     }
 
     private static String shown(Method method) {
-        StringBuilder all = new StringBuilder(method.getReturnType() + " " + method.getName() + "(");
-        for (Class<?> type : method.getParameterTypes()) {
-            all.append(all.toString().endsWith("(") ? "" : ",").append(type);
-        }
-        return all.append(")").toString();
+        String types = listed(method.getParameterTypes());
+        String thrown = listed(method.getExceptionTypes());
+        return method.getReturnType() + " " + method.getName() + "(" + types + ")"
+            + (thrown.isEmpty() ? "" : " throws " + thrown);
     }
 
-    private static void face() {
+    private static String listed(Class<?>[] types) {
+        StringBuilder all = new StringBuilder();
+        for (Class<?> type : types) {
+            all.append(all.length() == 0 ? "" : ", ").append(type.getSimpleName());
+        }
+        return all.toString();
+    }
+
+    private static void face(Set<String> names) {
         Set<String> methods = new TreeSet<>();
-        Set<String> names = new TreeSet<>();
         for (Method method : SourceTree.class.getDeclaredMethods()) {
-            if (Modifier.isPublic(method.getModifiers())) {
+            if (method.getModifiers() == Modifier.PUBLIC) {
                 methods.add(shown(method));
-                names.add(method.getName());
+            } else {
+                boolean hidden = Modifier.isPrivate(method.getModifiers()) && !names.contains(method.getName());
+                Check.same("rule 1: " + method.getName(), hidden, true);
             }
         }
         Check.same("rule 1: the face", methods.toString(), new TreeSet<>(FACE).toString());
-        for (Method method : SourceTree.class.getDeclaredMethods()) {
-            boolean hidden = Modifier.isPrivate(method.getModifiers()) && !names.contains(method.getName());
-            Check.same("rule 1: " + method.getName(), hidden || FACE.contains(shown(method)), true);
-        }
-        for (Field field : SourceTree.class.getDeclaredFields()) {
-            boolean open = !Modifier.isPrivate(field.getModifiers());
-            Check.same("rule 1: " + field.getName(), open, field.getName().equals("NONE"));
-        }
-        Constructor<?>[] constructors = SourceTree.class.getDeclaredConstructors();
-        Check.same("rule 1: one constructor", constructors.length, 1);
-        Check.same("rule 1: it takes nothing", constructors[0].getParameterCount(), 0);
         Check.same("rule 1: public final", SourceTree.class.getModifiers(), Modifier.PUBLIC | Modifier.FINAL);
+        Check.same("rule 1: nothing inherited", SourceTree.class.getSuperclass().getName(), "java.lang.Object");
+        Check.same("rule 1: no interfaces", SourceTree.class.getInterfaces().length, 0);
     }
 
-    private static void nestedClasses() {
+    private static void fieldsAndConstructor() {
+        String open = "";
+        for (Field field : SourceTree.class.getDeclaredFields()) {
+            open += Modifier.isPrivate(field.getModifiers()) ? "" : field + ";";
+        }
+        Check.same("rule 1: the constant", open, "public static final int SourceTree.NONE;");
+        Constructor<?>[] constructors = SourceTree.class.getDeclaredConstructors();
+        Check.same("rule 1: one constructor", constructors.length, 1);
+        Check.same("rule 1: it takes and throws nothing", constructors[0].toGenericString(), "public SourceTree()");
+    }
+
+    private static void nestedClasses(Set<String> names) {
         Class<?>[] classes = SourceTree.class.getDeclaredClasses();
         Check.same("rule 11: classes", classes.length <= 12, true);
         for (Class<?> nested : classes) {
@@ -81,6 +101,7 @@ final class LanguageTest {
             Check.same("rule 11: fields of " + nested, fields <= 20, true);
             for (Method method : nested.getDeclaredMethods()) {
                 Check.same("rule 11: " + method, method.getParameterCount() <= 7, true);
+                Check.same("rule 1: " + method, names.contains(method.getName()), false);
             }
         }
     }
@@ -97,7 +118,22 @@ final class LanguageTest {
                 .contains(imports.group(1));
             Check.same("rule 4: " + imports.group(1), listed, true);
         }
+        libraryCalls(code);
         lengths(code.split("\n"));
+    }
+
+    private static void libraryCalls(String code) {
+        Set<String> own = new TreeSet<>();
+        for (Class<?> nested : SourceTree.class.getDeclaredClasses()) {
+            for (Method method : nested.getDeclaredMethods()) {
+                own.add(method.getName());
+            }
+        }
+        Matcher calls = Pattern.compile("\\.\\s*(\\w+)\\(").matcher(code);
+        while (calls.find()) {
+            String name = calls.group(1);
+            Check.same("rule 4: " + name, own.contains(name) || LIBRARY.contains(name), true);
+        }
     }
 
     /** A method ends at the first line that closes it at its own depth. */
